@@ -71,7 +71,8 @@ public final class AddressTest {
     }
 
     private static void whereNobodyComes() {
-        ThriftyStores x = Kinds.program(in(Kinds.HALT), in(Kinds.MAKE, 1, 1), in(Kinds.STORE, 1, 1), in(Kinds.LOAD, 2, 1));
+        ThriftyStores x = Kinds.program(in(Kinds.HALT), in(Kinds.MAKE, 1, 1), in(Kinds.STORE, 1, 1),
+                in(Kinds.LOAD, 2, 1));
         x.thrift();
         dueMay(x, 1, 1);
         dueMay(x, 2, 1);
@@ -80,7 +81,8 @@ public final class AddressTest {
 
     private static void ofTheWrittenProgram() {
         // Thrift drops the STORE; what was written still stores.
-        ThriftyStores x = Kinds.program(in(Kinds.MAKE, 1, 1), in(Kinds.MAKE, 2, 1), in(Kinds.STORE, 1, 2), in(Kinds.HALT));
+        ThriftyStores x = Kinds.program(in(Kinds.MAKE, 1, 1), in(Kinds.MAKE, 2, 1), in(Kinds.STORE, 1, 2),
+                in(Kinds.HALT));
         CHECK.due("thrift()", x.thrift(), 1);
         dueInside(x, 0, 1);
         dueInside(x, 2);

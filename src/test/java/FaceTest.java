@@ -2,12 +2,11 @@ import java.lang.reflect.Constructor;
 import java.lang.reflect.Field;
 import java.lang.reflect.Method;
 import java.lang.reflect.Modifier;
-import java.util.Arrays;
 import java.util.List;
 import java.util.Set;
 import java.util.TreeSet;
 
-/** The public face: the document's members, no other that is not private, and no private method of a public one's name. */
+/** The public face: the document's members, all others private, and no private method of a public one's name. */
 public final class FaceTest {
     private static final Check CHECK = new Check("FaceTest");
 
@@ -28,7 +27,8 @@ public final class FaceTest {
     private static void constructors(Class<?> face) {
         Constructor<?>[] all = face.getDeclaredConstructors();
         CHECK.due("constructors", all.length, 1);
-        CHECK.due("public constructor", Modifier.isPublic(all[0].getModifiers()) && all[0].getParameterCount() == 0, true);
+        CHECK.due("public constructor", Modifier.isPublic(all[0].getModifiers()), true);
+        CHECK.due("parameters", all[0].getParameterCount(), 0);
     }
 
     private static void fields(Class<?> face) {
@@ -76,10 +76,14 @@ public final class FaceTest {
         }
         for (Class<?> inside : face.getDeclaredClasses()) {
             CHECK.due(inside + " is static", Modifier.isStatic(inside.getModifiers()), true);
-            Arrays.stream(inside.getDeclaredMethods())
-                    .forEach(method -> CHECK.due(method.getName() + " is new", names.contains(method.getName()), false));
+            for (Method method : inside.getDeclaredMethods()) {
+                CHECK.due(method.getName() + " is new", names.contains(method.getName()), false);
+            }
         }
-        Arrays.stream(face.getDeclaredMethods()).filter(method -> Modifier.isPrivate(method.getModifiers()))
-                .forEach(method -> CHECK.due(method.getName() + " is new", names.contains(method.getName()), false));
+        for (Method method : face.getDeclaredMethods()) {
+            if (Modifier.isPrivate(method.getModifiers())) {
+                CHECK.due(method.getName() + " is new", names.contains(method.getName()), false);
+            }
+        }
     }
 }

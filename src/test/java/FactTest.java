@@ -29,12 +29,6 @@ public final class FactTest {
         return Kinds.in(row);
     }
 
-    private static ThriftyStores thrifty(int[]... rows) {
-        ThriftyStores x = Kinds.program(rows);
-        x.thrift();
-        return x;
-    }
-
     private static void due(ThriftyStores x, int i, int what, int r, int s, boolean want) {
         CHECK.due("fact(" + i + ", " + what + ", " + r + ", " + s + ")", x.fact(i, what, r, s), want);
         if (what == EQUAL) {
@@ -47,7 +41,7 @@ public final class FactTest {
     }
 
     private static void atTheBeginning() {
-        ThriftyStores x = thrifty();
+        ThriftyStores x = Kinds.thrifty();
         for (int r = 0; r < 16; r++) {
             dueSure(x, 0, r, false);
             for (int s = 0; s < 16; s++) {
@@ -62,7 +56,7 @@ public final class FactTest {
         int[][] setting = {{Kinds.NUMBER, 1, 0}, {Kinds.SUM, 1, 2, 3}, {Kinds.DIFFERENCE, 1, 2, 3},
             {Kinds.PRODUCT, 1, 2, 3}, {Kinds.LESS, 1, 2, 3}, {Kinds.SAME, 1, 2, 3}};
         for (int[] row : setting) {
-            ThriftyStores x = thrifty(in(Kinds.STORE, 1, 1), row);
+            ThriftyStores x = Kinds.thrifty(in(Kinds.STORE, 1, 1), row);
             due(x, 1, EQUAL, 1, 2, true);
             due(x, 1, HOLDS, 1, 1, true);
             due(x, 2, EQUAL, 1, 2, false);
@@ -76,7 +70,7 @@ public final class FactTest {
         }
         int[][] leaving = {{Kinds.PRINT, 1}, {Kinds.JUMP, 2}, {Kinds.IF, 1, 2}, {Kinds.NOTHING}, {Kinds.MOVE, 1, 1}};
         for (int[] row : leaving) {
-            ThriftyStores x = thrifty(in(Kinds.STORE, 1, 1), row);
+            ThriftyStores x = Kinds.thrifty(in(Kinds.STORE, 1, 1), row);
             due(x, 2, EQUAL, 1, 2, true);
             due(x, 2, HOLDS, 1, 1, true);
             dueSure(x, 2, 1, true);
@@ -84,7 +78,7 @@ public final class FactTest {
     }
 
     private static void moves() {
-        ThriftyStores x = thrifty(in(Kinds.MAKE, 1, 1), in(Kinds.STORE, 1, 1), in(Kinds.NUMBER, 2, 5),
+        ThriftyStores x = Kinds.thrifty(in(Kinds.MAKE, 1, 1), in(Kinds.STORE, 1, 1), in(Kinds.NUMBER, 2, 5),
                 in(Kinds.MOVE, 3, 1), in(Kinds.MOVE, 1, 2), in(Kinds.NOTHING));
         due(x, 3, HOLDS, 1, 1, true);
         due(x, 3, HOLDS, 1, 3, false);
@@ -109,7 +103,7 @@ public final class FactTest {
     }
 
     private static void movesOfWhatIsHeld() {
-        ThriftyStores x = thrifty(in(Kinds.MAKE, 1, 1), in(Kinds.NUMBER, 2, 5), in(Kinds.STORE, 1, 2),
+        ThriftyStores x = Kinds.thrifty(in(Kinds.MAKE, 1, 1), in(Kinds.NUMBER, 2, 5), in(Kinds.STORE, 1, 2),
                 in(Kinds.MOVE, 3, 2), in(Kinds.MOVE, 4, 3), in(Kinds.MOVE, 5, 1), in(Kinds.NOTHING));
         due(x, 4, HOLDS, 1, 3, true);
         due(x, 5, HOLDS, 1, 4, true);
@@ -123,7 +117,7 @@ public final class FactTest {
     }
 
     private static void shiftsAndMakes() {
-        ThriftyStores x = thrifty(in(Kinds.SHIFT, 1, 2, 3), in(Kinds.SHIFT, 4, 4, 3), in(Kinds.MAKE, 5, 1),
+        ThriftyStores x = Kinds.thrifty(in(Kinds.SHIFT, 1, 2, 3), in(Kinds.SHIFT, 4, 4, 3), in(Kinds.MAKE, 5, 1),
                 in(Kinds.NOTHING));
         dueSure(x, 1, 1, true);
         dueSure(x, 1, 2, true);
@@ -140,7 +134,7 @@ public final class FactTest {
     }
 
     private static void loads() {
-        ThriftyStores x = thrifty(in(Kinds.MAKE, 1, 1), in(Kinds.MOVE, 2, 1), in(Kinds.LOAD, 3, 1),
+        ThriftyStores x = Kinds.thrifty(in(Kinds.MAKE, 1, 1), in(Kinds.MOVE, 2, 1), in(Kinds.LOAD, 3, 1),
                 in(Kinds.LOAD, 4, 2), in(Kinds.MOVE, 6, 5), in(Kinds.LOAD, 5, 6), in(Kinds.NOTHING));
         due(x, 3, HOLDS, 1, 3, true);
         due(x, 3, HOLDS, 2, 3, true);
@@ -164,7 +158,7 @@ public final class FactTest {
     }
 
     private static void loadsIntoTheirAddress() {
-        ThriftyStores x = thrifty(in(Kinds.MAKE, 1, 1), in(Kinds.MOVE, 2, 1), in(Kinds.NUMBER, 3, 7),
+        ThriftyStores x = Kinds.thrifty(in(Kinds.MAKE, 1, 1), in(Kinds.MOVE, 2, 1), in(Kinds.NUMBER, 3, 7),
                 in(Kinds.STORE, 1, 3), in(Kinds.LOAD, 1, 1), in(Kinds.NOTHING));
         due(x, 5, HOLDS, 2, 1, true);
         due(x, 5, HOLDS, 2, 3, true);
@@ -177,7 +171,7 @@ public final class FactTest {
     }
 
     private static void stores() {
-        ThriftyStores x = thrifty(in(Kinds.NUMBER, 1, 1), in(Kinds.NUMBER, 2, 2), in(Kinds.MOVE, 3, 1),
+        ThriftyStores x = Kinds.thrifty(in(Kinds.NUMBER, 1, 1), in(Kinds.NUMBER, 2, 2), in(Kinds.MOVE, 3, 1),
                 in(Kinds.MOVE, 4, 2), in(Kinds.STORE, 1, 2), in(Kinds.NOTHING));
         int[] places = {1, 3};
         int[] values = {2, 4};
@@ -197,7 +191,7 @@ public final class FactTest {
     }
 
     private static void storesThatMeet() {
-        ThriftyStores x = thrifty(in(Kinds.MAKE, 1, 2), in(Kinds.SHIFT, 2, 1, 0), in(Kinds.MAKE, 3, 1),
+        ThriftyStores x = Kinds.thrifty(in(Kinds.MAKE, 1, 2), in(Kinds.SHIFT, 2, 1, 0), in(Kinds.MAKE, 3, 1),
                 in(Kinds.NUMBER, 4, 4), in(Kinds.NUMBER, 5, 5), in(Kinds.STORE, 1, 4), in(Kinds.STORE, 3, 4),
                 in(Kinds.MOVE, 6, 4), in(Kinds.STORE, 2, 6), in(Kinds.STORE, 2, 5), in(Kinds.NOTHING));
         due(x, 6, HOLDS, 1, 4, true);
@@ -216,7 +210,7 @@ public final class FactTest {
     }
 
     private static void waysThatJoin() {
-        ThriftyStores x = thrifty(in(Kinds.MAKE, 1, 1), in(Kinds.NUMBER, 2, 2), in(Kinds.NUMBER, 3, 3),
+        ThriftyStores x = Kinds.thrifty(in(Kinds.MAKE, 1, 1), in(Kinds.NUMBER, 2, 2), in(Kinds.NUMBER, 3, 3),
                 in(Kinds.IF, 4, 7), in(Kinds.STORE, 1, 2), in(Kinds.MOVE, 5, 2), in(Kinds.JUMP, 9),
                 in(Kinds.STORE, 1, 3), in(Kinds.MOVE, 5, 3), in(Kinds.NOTHING));
         due(x, 6, HOLDS, 1, 5, true);
@@ -232,20 +226,22 @@ public final class FactTest {
     }
 
     private static void loopsToTheBeginning() {
-        ThriftyStores x = thrifty(in(Kinds.NOTHING), in(Kinds.NUMBER, 1, 1), in(Kinds.MAKE, 2, 1), in(Kinds.IF, 3, 0));
+        ThriftyStores x = Kinds.thrifty(in(Kinds.NOTHING), in(Kinds.NUMBER, 1, 1), in(Kinds.MAKE, 2, 1),
+                in(Kinds.IF, 3, 0));
         due(x, 0, EQUAL, 1, 4, false);
         due(x, 0, EQUAL, 1, 2, false);
         due(x, 0, EQUAL, 3, 4, true);
         dueSure(x, 0, 2, false);
         dueSure(x, 4, 2, true);
-        ThriftyStores y = thrifty(in(Kinds.MAKE, 1, 1), in(Kinds.LOAD, 2, 1), in(Kinds.IF, 2, 1), in(Kinds.JUMP, 1));
+        ThriftyStores y = Kinds.thrifty(in(Kinds.MAKE, 1, 1), in(Kinds.LOAD, 2, 1), in(Kinds.IF, 2, 1),
+                in(Kinds.JUMP, 1));
         due(y, 1, HOLDS, 1, 2, false);
         dueSure(y, 1, 1, true);
         due(y, 2, HOLDS, 1, 2, true);
     }
 
     private static void whatIsReached() {
-        ThriftyStores x = thrifty(in(Kinds.IF, 1, 4), in(Kinds.JUMP, 5), in(Kinds.MAKE, 2, 1), in(Kinds.JUMP, 5),
+        ThriftyStores x = Kinds.thrifty(in(Kinds.IF, 1, 4), in(Kinds.JUMP, 5), in(Kinds.MAKE, 2, 1), in(Kinds.JUMP, 5),
                 in(Kinds.HALT), in(Kinds.JUMP, 5));
         boolean[] reached = {true, true, false, false, true, true, false};
         for (int i = 0; i < reached.length; i++) {
@@ -253,7 +249,7 @@ public final class FactTest {
             due(x, i, EQUAL, 2, 3, reached[i]);
         }
         dueSure(x, 3, 2, false);
-        ThriftyStores y = thrifty(in(Kinds.JUMP, 200), in(Kinds.HALT));
+        ThriftyStores y = Kinds.thrifty(in(Kinds.JUMP, 200), in(Kinds.HALT));
         due(y, 1, REACHED, 0, 0, false);
         due(y, 2, REACHED, 0, 0, true);
         due(y, 2, EQUAL, 0, 15, true);

@@ -22,18 +22,12 @@ public final class FreeTest {
         return Kinds.in(row);
     }
 
-    private static ThriftyStores thrifty(int[]... rows) {
-        ThriftyStores x = Kinds.program(rows);
-        x.thrift();
-        return x;
-    }
-
     private static void due(ThriftyStores x, int i, int r, boolean want) {
         CHECK.due("free(" + i + ", " + r + ")", x.free(i, r), want);
     }
 
     private static void atTheEnds() {
-        ThriftyStores x = thrifty(in(Kinds.MAKE, 1, 1), in(Kinds.MAKE, 2, 1, 1), in(Kinds.MOVE, 3, 2),
+        ThriftyStores x = Kinds.thrifty(in(Kinds.MAKE, 1, 1), in(Kinds.MAKE, 2, 1, 1), in(Kinds.MOVE, 3, 2),
                 in(Kinds.IF, 0, 200), in(Kinds.HALT));
         for (int i = 3; i <= 5; i++) {
             due(x, i, 0, true);
@@ -41,7 +35,7 @@ public final class FreeTest {
             due(x, i, 2, false);
             due(x, i, 3, false);
         }
-        ThriftyStores empty = thrifty();
+        ThriftyStores empty = Kinds.thrifty();
         for (int r = 0; r < 16; r++) {
             due(empty, 0, r, true);
         }
@@ -52,7 +46,7 @@ public final class FreeTest {
             {Kinds.PRODUCT, 1, 2, 3}, {Kinds.LESS, 1, 2, 3}, {Kinds.SAME, 1, 2, 3}, {Kinds.SHIFT, 1, 2, 3},
             {Kinds.MAKE, 1, 1}, {Kinds.LOAD, 1, 2}, {Kinds.MOVE, 1, 1}, {Kinds.MOVE, 1, 2}};
         for (int[] row : setting) {
-            ThriftyStores x = thrifty(in(Kinds.NOTHING), row);
+            ThriftyStores x = Kinds.thrifty(in(Kinds.NOTHING), row);
             due(x, 0, 1, false);
             due(x, 0, 2, true);
             due(x, 0, 3, true);
@@ -60,14 +54,14 @@ public final class FreeTest {
         }
         int[][] leaving = {{Kinds.PRINT, 1}, {Kinds.JUMP, 2}, {Kinds.IF, 1, 2}, {Kinds.NOTHING}, {Kinds.HALT}};
         for (int[] row : leaving) {
-            ThriftyStores x = thrifty(in(Kinds.NOTHING), row);
+            ThriftyStores x = Kinds.thrifty(in(Kinds.NOTHING), row);
             due(x, 0, 1, true);
         }
     }
 
     private static void moves() {
         // At the end register 2 may be a KEPT object, so it is not free but for what register 1 will be.
-        ThriftyStores x = thrifty(in(Kinds.MAKE, 2, 1, 1), in(Kinds.NOTHING), in(Kinds.MOVE, 1, 2),
+        ThriftyStores x = Kinds.thrifty(in(Kinds.MAKE, 2, 1, 1), in(Kinds.NOTHING), in(Kinds.MOVE, 1, 2),
                 in(Kinds.STORE, 1, 3), in(Kinds.NUMBER, 1, 0));
         due(x, 4, 2, false);
         due(x, 3, 2, false);
@@ -76,7 +70,7 @@ public final class FreeTest {
         due(x, 2, 2, true);
         due(x, 1, 2, true);
         due(x, 1, 1, false);
-        ThriftyStores y = thrifty(in(Kinds.MAKE, 2, 1, 1), in(Kinds.NOTHING), in(Kinds.MOVE, 1, 2),
+        ThriftyStores y = Kinds.thrifty(in(Kinds.MAKE, 2, 1, 1), in(Kinds.NOTHING), in(Kinds.MOVE, 1, 2),
                 in(Kinds.NUMBER, 3, 3), in(Kinds.SHIFT, 2, 2, 3), in(Kinds.STORE, 1, 3), in(Kinds.NUMBER, 1, 0));
         due(y, 4, 1, true);
         due(y, 4, 2, false);
@@ -86,7 +80,7 @@ public final class FreeTest {
     }
 
     private static void loads() {
-        ThriftyStores x = thrifty(in(Kinds.MAKE, 1, 2), in(Kinds.MAKE, 2, 1), in(Kinds.SHIFT, 3, 1, 0),
+        ThriftyStores x = Kinds.thrifty(in(Kinds.MAKE, 1, 2), in(Kinds.MAKE, 2, 1), in(Kinds.SHIFT, 3, 1, 0),
                 in(Kinds.NOTHING), in(Kinds.LOAD, 4, 3), in(Kinds.NOTHING), in(Kinds.LOAD, 5, 6));
         due(x, 3, 1, false);
         due(x, 3, 2, true);
@@ -101,7 +95,7 @@ public final class FreeTest {
     }
 
     private static void stores() {
-        ThriftyStores x = thrifty(in(Kinds.MAKE, 1, 2, 1), in(Kinds.MOVE, 2, 1), in(Kinds.SHIFT, 3, 1, 0),
+        ThriftyStores x = Kinds.thrifty(in(Kinds.MAKE, 1, 2, 1), in(Kinds.MOVE, 2, 1), in(Kinds.SHIFT, 3, 1, 0),
                 in(Kinds.NOTHING), in(Kinds.STORE, 1, 4), in(Kinds.HALT));
         due(x, 3, 1, true);
         due(x, 3, 2, true);
@@ -112,15 +106,15 @@ public final class FreeTest {
     }
 
     private static void waysThatPart() {
-        ThriftyStores x = thrifty(in(Kinds.MAKE, 1, 1), in(Kinds.IF, 5, 4), in(Kinds.STORE, 1, 2), in(Kinds.HALT),
+        ThriftyStores x = Kinds.thrifty(in(Kinds.MAKE, 1, 1), in(Kinds.IF, 5, 4), in(Kinds.STORE, 1, 2), in(Kinds.HALT),
                 in(Kinds.LOAD, 3, 1));
         due(x, 1, 1, false);
         due(x, 0, 1, false);
         due(x, 1, 4, true);
         due(x, 2, 1, true);
         due(x, 3, 1, true);
-        ThriftyStores y = thrifty(in(Kinds.MAKE, 1, 1, 1), in(Kinds.IF, 5, 4), in(Kinds.STORE, 1, 2), in(Kinds.HALT),
-                in(Kinds.STORE, 1, 3));
+        ThriftyStores y = Kinds.thrifty(in(Kinds.MAKE, 1, 1, 1), in(Kinds.IF, 5, 4), in(Kinds.STORE, 1, 2),
+                in(Kinds.HALT), in(Kinds.STORE, 1, 3));
         due(y, 1, 1, true);
         due(y, 0, 1, true);
         due(y, 2, 1, false);
@@ -129,13 +123,13 @@ public final class FreeTest {
 
     private static void loops() {
         // A loop that nobody leaves: all is free in it that it does not set or load.
-        ThriftyStores x = thrifty(in(Kinds.MAKE, 1, 1, 1), in(Kinds.NUMBER, 2, 2), in(Kinds.JUMP, 1));
+        ThriftyStores x = Kinds.thrifty(in(Kinds.MAKE, 1, 1, 1), in(Kinds.NUMBER, 2, 2), in(Kinds.JUMP, 1));
         due(x, 0, 1, true);
         due(x, 2, 1, true);
         due(x, 2, 2, false);
         due(x, 1, 2, false);
-        ThriftyStores y = thrifty(in(Kinds.MAKE, 1, 1), in(Kinds.MAKE, 2, 1), in(Kinds.NOTHING), in(Kinds.LOAD, 3, 1),
-                in(Kinds.STORE, 2, 3), in(Kinds.IF, 3, 2));
+        ThriftyStores y = Kinds.thrifty(in(Kinds.MAKE, 1, 1), in(Kinds.MAKE, 2, 1), in(Kinds.NOTHING),
+                in(Kinds.LOAD, 3, 1), in(Kinds.STORE, 2, 3), in(Kinds.IF, 3, 2));
         due(y, 3, 1, false);
         due(y, 4, 1, false);
         due(y, 5, 1, false);
@@ -144,7 +138,7 @@ public final class FreeTest {
     }
 
     private static void whatIsNotReached() {
-        ThriftyStores x = thrifty(in(Kinds.JUMP, 2), in(Kinds.NOTHING), in(Kinds.HALT));
+        ThriftyStores x = Kinds.thrifty(in(Kinds.JUMP, 2), in(Kinds.NOTHING), in(Kinds.HALT));
         for (int r = 0; r < 16; r++) {
             due(x, 0, r, true);
             due(x, 1, r, false);

@@ -27,6 +27,12 @@ final class Kinds {
         return x;
     }
 
+    static ThriftyStores thrifty(int[]... rows) {
+        ThriftyStores x = program(rows);
+        x.thrift();
+        return x;
+    }
+
     static void write(ThriftyStores x, int[]... rows) {
         for (int[] row : rows) {
             x.add(row[0], part(row, 1), part(row, 2), part(row, 3));
