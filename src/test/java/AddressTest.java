@@ -11,7 +11,6 @@ public final class AddressTest {
         whereNobodyComes();
         ofTheWrittenProgram();
         highNumbers();
-        wrongAsks();
         CHECK.end();
     }
 
@@ -105,25 +104,5 @@ public final class AddressTest {
         for (int site : sites) {
             dueInside(x, site, sites);
         }
-    }
-
-    private static void wrongAsks() {
-        ThriftyStores x = Kinds.program(in(Kinds.MAKE, 1, 1));
-        CHECK.noState("may(1, 0)", () -> Check.bit(x.may(1, 0)));
-        CHECK.noState("inside(0, 0)", () -> Check.bit(x.inside(0, 0)));
-        for (int k = 0; k < 2; k++) {
-            CHECK.noIndex("may(-1, 0)", () -> Check.bit(x.may(-1, 0)));
-            CHECK.noIndex("may(16, 0)", () -> Check.bit(x.may(16, 0)));
-            CHECK.noIndex("may(1, -1)", () -> Check.bit(x.may(1, -1)));
-            CHECK.noIndex("may(1, 1)", () -> Check.bit(x.may(1, 1)));
-            CHECK.noIndex("inside(-1, 0)", () -> Check.bit(x.inside(-1, 0)));
-            CHECK.noIndex("inside(1, 0)", () -> Check.bit(x.inside(1, 0)));
-            CHECK.noIndex("inside(0, -1)", () -> Check.bit(x.inside(0, -1)));
-            CHECK.noIndex("inside(0, 1)", () -> Check.bit(x.inside(0, 1)));
-            if (k == 0) {
-                x.thrift();
-            }
-        }
-        CHECK.due("may(15, 0)", x.may(15, 0), false);
     }
 }

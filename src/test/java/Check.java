@@ -3,6 +3,7 @@ import java.util.function.LongSupplier;
 /** Counts and prints the answers that are not the ones that are due. */
 final class Check {
     private final String about;
+    private String sentence = "";
     private int wrong = 0;
     private int asked = 0;
 
@@ -10,11 +11,15 @@ final class Check {
         this.about = about;
     }
 
+    /** Names the document's sentence that the answers from here on stand for. */
+    void under(String words) {
+        sentence = " [" + words + "]";
+    }
+
     void due(String call, long got, long want) {
         asked++;
         if (got != want) {
-            wrong++;
-            System.out.println(about + ": " + call + " answered " + got + ", due is " + want);
+            tell(call + " answered " + got + ", due is " + want);
         }
     }
 
@@ -34,7 +39,7 @@ final class Check {
         refused(call, asking, IllegalStateException.class);
     }
 
-    private void refused(String call, LongSupplier asking, Class<?> want) {
+    void refused(String call, LongSupplier asking, Class<? extends RuntimeException> want) {
         asked++;
         String got;
         try {
@@ -45,8 +50,12 @@ final class Check {
             }
             got = "threw " + e;
         }
+        tell(call + " " + got + ", due is " + want.getName());
+    }
+
+    private void tell(String fault) {
         wrong++;
-        System.out.println(about + ": " + call + " " + got + ", due is " + want.getName());
+        System.out.println(about + sentence + ": " + fault);
     }
 
     static long bit(boolean answer) {

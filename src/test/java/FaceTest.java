@@ -32,6 +32,7 @@ public final class FaceTest {
     }
 
     private static void fields(Class<?> face) {
+        CHECK.due("NONE", ThriftyStores.NONE, -1);
         for (Field field : face.getDeclaredFields()) {
             boolean constant = field.getName().equals("NONE");
             CHECK.due(field.getName() + " is public", Modifier.isPublic(field.getModifiers()), constant);

@@ -21,7 +21,6 @@ public final class FactTest {
         waysThatJoin();
         loopsToTheBeginning();
         whatIsReached();
-        wrongAsks();
         CHECK.end();
     }
 
@@ -261,26 +260,5 @@ public final class FactTest {
         due(z, 199, REACHED, 0, 0, true);
         due(z, 200, REACHED, 0, 0, true);
         due(z, 200, EQUAL, 14, 15, true);
-    }
-
-    private static void wrongAsks() {
-        ThriftyStores x = Kinds.program(in(Kinds.MAKE, 1, 1));
-        CHECK.noState("fact(0, 0, 1, 2)", () -> Check.bit(x.fact(0, 0, 1, 2)));
-        CHECK.noState("fact(1, 3, 0, 0)", () -> Check.bit(x.fact(1, 3, 0, 0)));
-        for (int k = 0; k < 2; k++) {
-            int[][] noIndex = {{-1, 0, 1, 2}, {2, 0, 1, 2}, {0, 0, -1, 2}, {0, 0, 16, 2}, {0, 1, 1, -1}, {0, 1, 1, 16},
-                {2, 9, 1, 2}, {0, 9, 16, 2}, {0, 2, 16, 0}};
-            for (int[] p : noIndex) {
-                CHECK.noIndex("fact of no such thing", () -> Check.bit(x.fact(p[0], p[1], p[2], p[3])));
-            }
-            int[][] noArgument = {{0, -1, 0, 0}, {0, 4, 0, 0}, {1, 2, 0, 1}, {1, 2, 1, 15}, {0, 3, 1, 0}, {0, 3, 0, 1}};
-            for (int[] p : noArgument) {
-                CHECK.noArgument("fact of no such kind", () -> Check.bit(x.fact(p[0], p[1], p[2], p[3])));
-            }
-            if (k == 0) {
-                x.thrift();
-            }
-        }
-        dueSure(x, 1, 1, true);
     }
 }

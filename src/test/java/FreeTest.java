@@ -14,7 +14,6 @@ public final class FreeTest {
         waysThatPart();
         loops();
         whatIsNotReached();
-        wrongAsks();
         CHECK.end();
     }
 
@@ -145,21 +144,5 @@ public final class FreeTest {
             due(x, 2, r, true);
             due(x, 3, r, false);
         }
-    }
-
-    private static void wrongAsks() {
-        ThriftyStores x = Kinds.program(in(Kinds.MAKE, 1, 1));
-        CHECK.noState("free(0, 1)", () -> Check.bit(x.free(0, 1)));
-        CHECK.noState("free(1, 1)", () -> Check.bit(x.free(1, 1)));
-        for (int k = 0; k < 2; k++) {
-            CHECK.noIndex("free(-1, 0)", () -> Check.bit(x.free(-1, 0)));
-            CHECK.noIndex("free(2, 0)", () -> Check.bit(x.free(2, 0)));
-            CHECK.noIndex("free(0, -1)", () -> Check.bit(x.free(0, -1)));
-            CHECK.noIndex("free(0, 16)", () -> Check.bit(x.free(0, 16)));
-            if (k == 0) {
-                x.thrift();
-            }
-        }
-        due(x, 1, 15, true);
     }
 }

@@ -15,9 +15,7 @@ public final class ThriftTest {
         notReached();
         deadBehindForwarded();
         severalRounds();
-        onlyOnce();
         clearedAndWrittenAgain();
-        wrongAsks();
         CHECK.end();
     }
 
@@ -129,14 +127,6 @@ public final class ThriftTest {
         CHECK.due("free(9, 3) of the written program", x.free(9, 3), false);
     }
 
-    private static void onlyOnce() {
-        ThriftyStores x = Kinds.program(in(Kinds.MAKE, 1, 1), in(Kinds.STORE, 1, 2));
-        due(x, 1, 2, 0, 3);
-        CHECK.noState("thrift() again", x::thrift);
-        CHECK.due("rounds()", x.rounds(), 2);
-        CHECK.due("fate(1)", x.fate(1), 3);
-    }
-
     private static void clearedAndWrittenAgain() {
         ThriftyStores x = Kinds.program(in(Kinds.MAKE, 1, 1), in(Kinds.STORE, 1, 2));
         due(x, 1, 2, 0, 3);
@@ -146,17 +136,5 @@ public final class ThriftTest {
         CHECK.due("fact(2, 1, 1, 2)", x.fact(2, 1, 1, 2), true);
         CHECK.due("fact(3, 3, 0, 0)", x.fact(3, 3, 0, 0), false);
         CHECK.due("free(1, 1)", x.free(1, 1), false);
-    }
-
-    private static void wrongAsks() {
-        ThriftyStores x = Kinds.program(in(Kinds.HALT));
-        CHECK.noState("rounds()", x::rounds);
-        CHECK.noState("fate(0)", () -> x.fate(0));
-        CHECK.noIndex("fate(1)", () -> x.fate(1));
-        CHECK.noIndex("fate(-1)", () -> x.fate(-1));
-        x.thrift();
-        CHECK.noIndex("fate(1)", () -> x.fate(1));
-        CHECK.noIndex("fate(-1)", () -> x.fate(-1));
-        CHECK.due("fate(0)", x.fate(0), 0);
     }
 }
