@@ -385,6 +385,8 @@ public final class ThriftyStores {
 
         private final long[] ofRegisters = new long[REGISTERS * WORDS];
         private final long[] ofCells = new long[MOST_INSTRUCTIONS * WORDS];
+        private final int[] sites = new int[MOST_INSTRUCTIONS];
+        private int siteCount = 0;
         /** For each register those that MEET it, a bit each. */
         final int[] meeting = new int[REGISTERS];
         /** The registers that no KEPT site is in MAY of. */
@@ -393,6 +395,7 @@ public final class ThriftyStores {
         void find(Program program) {
             Arrays.fill(ofRegisters, 0L);
             Arrays.fill(ofCells, 0L);
+            listSites(program);
             boolean grown = true;
             for (int sweep = 0; grown && sweep < MOST_SWEEPS; sweep++) {
                 grown = false;
@@ -412,6 +415,16 @@ public final class ThriftyStores {
 
         boolean mayHold(int site, int i) {
             return has(ofCells, site, i);
+        }
+
+        private void listSites(Program program) {
+            siteCount = 0;
+            for (int i = 0; i < program.length; i++) {
+                if (program.kinds[i] == MAKE) {
+                    sites[siteCount] = i;
+                    siteCount++;
+                }
+            }
         }
 
         private boolean follow(Program program, int i) {
@@ -434,8 +447,8 @@ public final class ThriftyStores {
 
         private boolean followLoad(int a, int b) {
             boolean grown = false;
-            for (int site = nextSite(b, 0); site < MOST_INSTRUCTIONS; site = nextSite(b, site + 1)) {
-                if (join(ofRegisters, a, ofCells, site)) {
+            for (int k = 0; k < siteCount; k++) {
+                if (has(ofRegisters, b, sites[k]) && join(ofRegisters, a, ofCells, sites[k])) {
                     grown = true;
                 }
             }
@@ -444,25 +457,12 @@ public final class ThriftyStores {
 
         private boolean followStore(int a, int b) {
             boolean grown = false;
-            for (int site = nextSite(a, 0); site < MOST_INSTRUCTIONS; site = nextSite(a, site + 1)) {
-                if (join(ofCells, site, ofRegisters, b)) {
+            for (int k = 0; k < siteCount; k++) {
+                if (has(ofRegisters, a, sites[k]) && join(ofCells, sites[k], ofRegisters, b)) {
                     grown = true;
                 }
             }
             return grown;
-        }
-
-        /** The first site in MAY of the register that is not below the least one, or else one too many. */
-        private int nextSite(int register, int least) {
-            int skipped = least & 63;
-            for (int w = least >> 6; w < WORDS; w++) {
-                long sites = ofRegisters[register * WORDS + w] >>> skipped;
-                if (sites != 0L) {
-                    return (w << 6) + skipped + Long.numberOfTrailingZeros(sites);
-                }
-                skipped = 0;
-            }
-            return MOST_INSTRUCTIONS;
         }
 
         private boolean enter(int register, int site) {
@@ -513,9 +513,9 @@ public final class ThriftyStores {
 
         private void findUnkept(Program program) {
             unkept = ALL_REGISTERS;
-            for (int i = 0; i < program.length; i++) {
-                if (program.kinds[i] == MAKE && program.thirds[i] == 1) {
-                    takeHolders(i);
+            for (int k = 0; k < siteCount; k++) {
+                if (program.thirds[sites[k]] == 1) {
+                    takeHolders(sites[k]);
                 }
             }
         }

@@ -7,15 +7,21 @@ import java.util.function.ToLongFunction;
 final class Answers {
     /** Nothing is promised behind an object's 512th call, so no object is asked more than this. */
     private static final int MOST_ASKED = 250;
+    private static final String REFUSED = "throws ";
     private static final int[] REGISTERS = {-1, 0, 1, 2, 3, 4, 15, 16};
 
     private record Question(String name, ToLongFunction<ThriftyStores> asking) {
     }
 
-    private final List<Question> questions = new ArrayList<>();
+    private final List<Question> questions;
+
+    private Answers(List<Question> questions) {
+        this.questions = questions;
+    }
 
     /** Asks about the instructions and points given, and about all that may be asked of a run. */
     Answers(int... points) {
+        questions = new ArrayList<>();
         ask("size()", ThriftyStores::size);
         ask("rounds()", ThriftyStores::rounds);
         for (int i : points) {
@@ -74,6 +80,21 @@ final class Answers {
         }
     }
 
+    /**
+     * The same questions, those first that such an object answers: it is asked them before any that it refuses,
+     * so that what a refusal may have changed is not hidden by another one.
+     */
+    Answers answeredFirst(Supplier<ThriftyStores> making) {
+        List<String> answers = of(making);
+        List<Question> sorted = new ArrayList<>();
+        List<Question> refused = new ArrayList<>();
+        for (int k = 0; k < answers.size(); k++) {
+            (answers.get(k).contains(REFUSED) ? refused : sorted).add(questions.get(k));
+        }
+        sorted.addAll(refused);
+        return new Answers(sorted);
+    }
+
     /** The answers of objects that are all made alike, each with the name of its question. */
     List<String> of(Supplier<ThriftyStores> making) {
         List<String> answers = new ArrayList<>();
@@ -92,7 +113,7 @@ final class Answers {
         try {
             return String.valueOf(asking.applyAsLong(x));
         } catch (RuntimeException e) {
-            return "throws " + e.getClass().getName();
+            return REFUSED + e.getClass().getName();
         }
     }
 }

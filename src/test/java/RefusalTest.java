@@ -113,11 +113,12 @@ public final class RefusalTest {
         for (Later later : laterCalls()) {
             List<String> due = new ArrayList<>();
             due.add(later.call() + ": " + Answers.answer(state.making().get(), later.asking()));
-            due.addAll(answers.of(() -> asked(state.making().get(), later)));
+            Answers sorted = answers.answeredFirst(() -> asked(state.making().get(), later));
+            due.addAll(sorted.of(() -> asked(state.making().get(), later)));
             for (Refusal refusal : refusals) {
                 List<String> got = new ArrayList<>();
                 got.add(later.call() + ": " + Answers.answer(refused(state, refusal), later.asking()));
-                got.addAll(answers.of(() -> asked(refused(state, refusal), later)));
+                got.addAll(sorted.of(() -> asked(refused(state, refusal), later)));
                 compare(state.name() + ": behind " + refusal.call() + " and " + later.call(), got, due);
             }
         }
@@ -203,6 +204,7 @@ public final class RefusalTest {
         }
         if (size > 0 && !state.thrifty()) {
             all.add(new Refusal("instruction(0, 0, false)", x -> x.instruction(0, 0, false), STATE));
+            all.add(new Refusal("instruction(size() - 1, 3, false)", x -> x.instruction(size - 1, 3, false), STATE));
             all.add(new Refusal("fate(0)", x -> x.fate(0), STATE));
             all.add(new Refusal("may(1, 0)", x -> Check.bit(x.may(1, 0)), STATE));
             all.add(new Refusal("inside(0, 0)", x -> Check.bit(x.inside(0, 0)), STATE));
